@@ -162,17 +162,20 @@ public final class GalleryGuards {
         needPolygon();
         needIndex(point, lattice.count);
         needIndex(other, lattice.count);
+        sight.learn();
         return has(sight.from(point), other);
     }
 
     public long visible(int point) throws IllegalStateException, IndexOutOfBoundsException {
         needPolygon();
         needIndex(point, lattice.count);
+        sight.learn();
         return sight.from(point);
     }
 
     public long kernel() throws IllegalStateException {
         needPolygon();
+        sight.learn();
         return sight.seeingAll();
     }
 
@@ -180,23 +183,27 @@ public final class GalleryGuards {
         needPolygon();
         needIndex(point, lattice.count);
         needIndex(other, lattice.count);
+        sight.learn();
         return sight.links(point, other);
     }
 
     public int diameter() throws IllegalStateException {
         needPolygon();
+        sight.learn();
         return sight.mostLinks();
     }
 
     public int farthest(int point) throws IllegalStateException, IndexOutOfBoundsException {
         needPolygon();
         needIndex(point, lattice.count);
+        sight.learn();
         return sight.lastReached(point);
     }
 
     public long seenFromEdge(int edge) throws IllegalStateException, IndexOutOfBoundsException {
         needPolygon();
         needIndex(edge, plan.vertexCount);
+        sight.learn();
         return sight.fromEdge(edge);
     }
 
@@ -207,23 +214,27 @@ public final class GalleryGuards {
         needPolygon();
         needIndex(triangle, plan.vertexCount - 2);
         needRange(k, 0, 2);
+        triangulation.learn();
         return triangulation.cornerOf(triangle, k);
     }
 
     public int triangleArea(int triangle) throws IllegalStateException, IndexOutOfBoundsException {
         needPolygon();
         needIndex(triangle, plan.vertexCount - 2);
+        triangulation.learn();
         return triangulation.areaOf(triangle);
     }
 
     public int colour(int vertex) throws IllegalStateException, IndexOutOfBoundsException {
         needPolygon();
         needIndex(vertex, plan.vertexCount);
+        triangulation.learn();
         return triangulation.colourOf(vertex);
     }
 
     public int colourGuards() throws IllegalStateException {
         needPolygon();
+        triangulation.learn();
         return triangulation.rarestColourSet();
     }
 
@@ -231,38 +242,45 @@ public final class GalleryGuards {
 
     public int vertexGuards() throws IllegalStateException {
         needPolygon();
+        sight.learn();
         return covers.fewestVertices();
     }
 
     public int edgeGuards() throws IllegalStateException {
         needPolygon();
+        sight.learn();
         return covers.fewestEdges();
     }
 
     public int guardNumber() throws IllegalStateException {
         needPolygon();
+        sight.learn();
         return covers.pointsNeeded();
     }
 
     public int guardPoint(int i) throws IllegalStateException, IndexOutOfBoundsException {
         needPolygon();
+        sight.learn();
         needIndex(i, covers.pointsNeeded());
         return covers.pickedPoint(i);
     }
 
     public int witnessNumber() throws IllegalStateException {
         needPolygon();
+        sight.learn();
         return spreads.mostWitnesses();
     }
 
     public int witness(int i) throws IllegalStateException, IndexOutOfBoundsException {
         needPolygon();
+        sight.learn();
         needIndex(i, spreads.mostWitnesses());
         return spreads.pickedWitness(i);
     }
 
     public int hiddenNumber() throws IllegalStateException {
         needPolygon();
+        sight.learn();
         return spreads.mostHidden();
     }
 
@@ -287,32 +305,38 @@ public final class GalleryGuards {
     public long watched(int guard) throws IllegalStateException, IndexOutOfBoundsException {
         needPolygon();
         needIndex(guard, plan.guardCount);
+        sight.learn();
         return watch.byGuard(guard);
     }
 
     public long unwatched() throws IllegalStateException {
         needPolygon();
+        sight.learn();
         return lattice.everyPoint() & ~watch.byAllBut(NONE);
     }
 
     public int watchers(int point) throws IllegalStateException, IndexOutOfBoundsException {
         needPolygon();
         needIndex(point, lattice.count);
+        sight.learn();
         return watch.guardsOn(point);
     }
 
     public int redundantGuards() throws IllegalStateException {
         needPolygon();
+        sight.learn();
         return watch.spareGuards();
     }
 
     public int bestPoint() throws IllegalStateException {
         needPolygon();
+        sight.learn();
         return watch.bestPostFor(lattice.everyPoint() & ~watch.byAllBut(NONE));
     }
 
     public int greedyGuards() throws IllegalStateException {
         needPolygon();
+        sight.learn();
         return watch.greedyCount();
     }
 
@@ -328,11 +352,13 @@ public final class GalleryGuards {
 
     public int watchedValue() throws IllegalStateException {
         needPolygon();
+        sight.learn();
         return watch.valueIn(watch.byAllBut(NONE));
     }
 
     public int bestValue() throws IllegalStateException {
         needPolygon();
+        sight.learn();
         return watch.valueAfterBestMove();
     }
 
@@ -341,6 +367,7 @@ public final class GalleryGuards {
     public int draw(int y) throws IllegalStateException, IllegalArgumentException {
         needPolygon();
         needRange(y, 0, SIDE - 1);
+        sight.learn();
         long lit = watch.byAllBut(NONE);
         int inRow = 0;
         for (int x = 0; x < SIDE; x++) {
@@ -564,24 +591,12 @@ public final class GalleryGuards {
             System.arraycopy(other.treasureValues, 0, treasureValues, 0, MAX_TREASURES);
         }
 
-        private boolean isCorner(int vertex) {
-            return vertex >= 0 && vertex < vertexCount && vertex < MAX_VERTICES;
-        }
-
-        private boolean isGuard(int guard) {
-            return guard >= 0 && guard < guardCount && guard < MAX_GUARDS;
-        }
-
-        private boolean isTreasure(int treasure) {
-            return treasure >= 0 && treasure < treasureCount && treasure < MAX_TREASURES;
-        }
-
         int cornerX(int vertex) {
-            return isCorner(vertex) ? vertexXs[vertex] : NONE;
+            return vertex >= 0 && vertex < vertexCount ? vertexXs[vertex] : NONE;
         }
 
         int cornerY(int vertex) {
-            return isCorner(vertex) ? vertexYs[vertex] : NONE;
+            return vertex >= 0 && vertex < vertexCount ? vertexYs[vertex] : NONE;
         }
 
         int after(int vertex) {
@@ -607,14 +622,14 @@ public final class GalleryGuards {
         }
 
         void shiftCorner(int vertex, int x, int y) {
-            if (isCorner(vertex)) {
+            if (vertex >= 0 && vertex < vertexCount) {
                 vertexXs[vertex] = x;
                 vertexYs[vertex] = y;
             }
         }
 
         void dropCorner(int vertex) {
-            if (!isCorner(vertex)) {
+            if (vertex < 0 || vertex >= vertexCount) {
                 return;
             }
             for (int i = vertex; i + 1 < vertexCount; i++) {
@@ -634,15 +649,15 @@ public final class GalleryGuards {
         }
 
         int guardX(int guard) {
-            return isGuard(guard) ? guardXs[guard] : NONE;
+            return guard >= 0 && guard < guardCount ? guardXs[guard] : NONE;
         }
 
         int guardY(int guard) {
-            return isGuard(guard) ? guardYs[guard] : NONE;
+            return guard >= 0 && guard < guardCount ? guardYs[guard] : NONE;
         }
 
         int reachOf(int guard) {
-            return isGuard(guard) ? guardReaches[guard] : 0;
+            return guard >= 0 && guard < guardCount ? guardReaches[guard] : 0;
         }
 
         void putGuard(int x, int y, int reach) {
@@ -656,20 +671,20 @@ public final class GalleryGuards {
         }
 
         void postGuard(int guard, int x, int y) {
-            if (isGuard(guard)) {
+            if (guard >= 0 && guard < guardCount) {
                 guardXs[guard] = x;
                 guardYs[guard] = y;
             }
         }
 
         void giveReach(int guard, int reach) {
-            if (isGuard(guard)) {
+            if (guard >= 0 && guard < guardCount) {
                 guardReaches[guard] = reach;
             }
         }
 
         void dropGuard(int guard) {
-            if (!isGuard(guard)) {
+            if (guard < 0 || guard >= guardCount) {
                 return;
             }
             for (int i = guard; i + 1 < guardCount; i++) {
@@ -690,15 +705,15 @@ public final class GalleryGuards {
         }
 
         int treasureX(int treasure) {
-            return isTreasure(treasure) ? treasureXs[treasure] : NONE;
+            return treasure >= 0 && treasure < treasureCount ? treasureXs[treasure] : NONE;
         }
 
         int treasureY(int treasure) {
-            return isTreasure(treasure) ? treasureYs[treasure] : NONE;
+            return treasure >= 0 && treasure < treasureCount ? treasureYs[treasure] : NONE;
         }
 
         int worthOf(int treasure) {
-            return isTreasure(treasure) ? treasureValues[treasure] : 0;
+            return treasure >= 0 && treasure < treasureCount ? treasureValues[treasure] : 0;
         }
 
         void putTreasure(int x, int y, int value) {
@@ -742,14 +757,21 @@ public final class GalleryGuards {
                 oldest = (oldest + 1) % MAX_CHANGES;
                 size--;
             }
-            past[(oldest + size) % MAX_CHANGES].copyFrom(plan);
-            size++;
+            Plan kept = past[(oldest + size) % MAX_CHANGES];
+            if (kept != null) {
+                kept.copyFrom(plan);
+                size++;
+            }
         }
 
         void takeInto(Plan plan) {
-            if (size > 0) {
-                size--;
-                plan.copyFrom(past[(oldest + size) % MAX_CHANGES]);
+            if (size == 0) {
+                return;
+            }
+            size--;
+            Plan kept = past[(oldest + size) % MAX_CHANGES];
+            if (kept != null) {
+                plan.copyFrom(kept);
             }
         }
     }
@@ -788,62 +810,52 @@ public final class GalleryGuards {
             readToken();
         }
 
-        /** Beyond the text stands a blank, so that every run ends there. */
-        private int byteAt(int i) {
-            return i >= 0 && i < textEnd && i < MAX_BYTES ? bytes[i] : ' ';
-        }
-
         void readToken() {
-            tokenStart = tokenEnd;
-            while (tokenStart < textEnd && byteAt(tokenStart) == ' ') {
-                tokenStart++;
-            }
-            int first = byteAt(tokenStart);
-            if (tokenStart >= textEnd) {
+            tokenStart = runEnd(tokenEnd, ' ', ' ');
+            if (tokenStart >= textEnd || tokenStart >= MAX_BYTES) {
                 tokenKind = END;
                 tokenEnd = tokenStart;
-            } else if (isLetter(first)) {
-                readWord();
-            } else if (isDigit(first)) {
-                readNumber();
+                return;
+            }
+            int first = bytes[tokenStart];
+            if (first >= 'a' && first <= 'z') {
+                tokenEnd = runEnd(tokenStart, 'a', 'z');
+                tokenKind = tokenEnd - tokenStart <= LONGEST_WORD ? WORD : WRONG;
+            } else if (first >= '0' && first <= '9') {
+                tokenEnd = runEnd(tokenStart, '0', '9');
+                tokenKind = tokenEnd - tokenStart <= LONGEST_NUMBER ? NUMBER : WRONG;
+                number = tokenKind == NUMBER ? digitsValue() : 0;
             } else {
-                tokenKind = first == ';' ? SEMICOLON : WRONG;
                 tokenEnd = tokenStart + 1;
+                tokenKind = first == ';' ? SEMICOLON : WRONG;
             }
         }
 
-        private void readWord() {
-            tokenEnd = tokenStart;
-            while (tokenEnd < textEnd && isLetter(byteAt(tokenEnd))) {
-                tokenEnd++;
+        /** Where the run of bytes from low to high that starts at the given index ends, at most the text's end. */
+        private int runEnd(int start, int low, int high) {
+            for (int i = Math.max(start, 0); i < textEnd && i < MAX_BYTES; i++) {
+                if (bytes[i] < low || bytes[i] > high) {
+                    return i;
+                }
             }
-            tokenKind = tokenEnd - tokenStart <= LONGEST_WORD ? WORD : WRONG;
+            return textEnd;
         }
 
-        private void readNumber() {
-            tokenEnd = tokenStart;
-            number = 0;
-            while (tokenEnd < textEnd && isDigit(byteAt(tokenEnd))) {
-                number = number * 10 + (byteAt(tokenEnd) - '0');
-                tokenEnd++;
+        private int digitsValue() {
+            int value = 0;
+            for (int i = Math.max(tokenStart, 0); i < tokenEnd && i < MAX_BYTES; i++) {
+                value = value * 10 + (bytes[i] - '0');
             }
-            tokenKind = tokenEnd - tokenStart <= LONGEST_NUMBER ? NUMBER : WRONG;
-        }
-
-        private static boolean isLetter(int value) {
-            return value >= 'a' && value <= 'z';
-        }
-
-        private static boolean isDigit(int value) {
-            return value >= '0' && value <= '9';
+            return value;
         }
 
         boolean isWord(String word) {
             if (tokenKind != WORD || tokenEnd - tokenStart != word.length()) {
                 return false;
             }
-            for (int i = 0; i < word.length(); i++) {
-                if (byteAt(tokenStart + i) != word.charAt(i)) {
+            for (int i = Math.max(tokenStart, 0); i < tokenEnd && i < MAX_BYTES; i++) {
+                int k = i - tokenStart;
+                if (k < 0 || k >= word.length() || bytes[i] != word.charAt(k)) {
                     return false;
                 }
             }
@@ -891,17 +903,13 @@ public final class GalleryGuards {
                     return Outline.isSimple(draft) && lattice.fill(draft) ? FINE : BAD_POLYGON;
                 }
                 int code = checkNumber(0, SIDE - 1);
-                if (code == FINE && i == MAX_VERTICES) {
-                    code = TOO_MANY;
-                }
                 if (code == FINE) {
-                    code = readPlace();
+                    code = i < MAX_VERTICES ? readPlace(false) : TOO_MANY;
                 }
                 if (code != FINE) {
                     return code;
                 }
                 draft.putCorner(i, readX, readY);
-                input.readToken();
             }
             return TOO_MANY;
         }
@@ -916,7 +924,12 @@ public final class GalleryGuards {
                     return WRONG_TOKEN;
                 }
                 input.readToken();
-                int code = readLine();
+                int code = WRONG_TOKEN;
+                if (input.isWord("guard")) {
+                    code = draft.guardCount < MAX_GUARDS ? readGuard() : TOO_MANY;
+                } else if (input.isWord("treasure")) {
+                    code = draft.treasureCount < MAX_TREASURES ? readTreasure() : TOO_MANY;
+                }
                 if (code != FINE) {
                     return code;
                 }
@@ -924,19 +937,9 @@ public final class GalleryGuards {
             return TOO_MANY;
         }
 
-        private int readLine() {
-            if (input.isWord("guard")) {
-                return draft.guardCount < MAX_GUARDS ? readGuard() : TOO_MANY;
-            }
-            if (input.isWord("treasure")) {
-                return draft.treasureCount < MAX_TREASURES ? readTreasure() : TOO_MANY;
-            }
-            return WRONG_TOKEN;
-        }
-
         private int readGuard() {
             input.readToken();
-            int code = readPoint();
+            int code = readPlace(true);
             if (code != FINE) {
                 return code;
             }
@@ -956,7 +959,7 @@ public final class GalleryGuards {
 
         private int readTreasure() {
             input.readToken();
-            int code = readPoint();
+            int code = readPlace(true);
             if (code == FINE) {
                 code = checkNumber(1, MAX_VALUE);
             }
@@ -968,21 +971,8 @@ public final class GalleryGuards {
             return FINE;
         }
 
-        /** Reads X and Y of a guard or a treasure and goes to the token behind them. */
-        private int readPoint() {
-            int code = readPlace();
-            if (code != FINE) {
-                return code;
-            }
-            if (lattice.numberAt(readX, readY) == NONE) {
-                return NO_POINT;
-            }
-            input.readToken();
-            return FINE;
-        }
-
-        /** Reads X and Y and stays at the Y, where an error of the place as a whole is told. */
-        private int readPlace() {
+        /** Reads X and Y and goes to the token behind them; if asked to, only where the polygon has a point. */
+        private int readPlace(boolean ofPolygon) {
             int code = checkNumber(0, SIDE - 1);
             if (code != FINE) {
                 return code;
@@ -994,6 +984,10 @@ public final class GalleryGuards {
                 return code;
             }
             readY = input.number;
+            if (ofPolygon && lattice.numberAt(readX, readY) == NONE) {
+                return NO_POINT;
+            }
+            input.readToken();
             return FINE;
         }
 
@@ -1200,7 +1194,10 @@ public final class GalleryGuards {
         }
     }
 
-    /** Which points see one another; worked out when it is first asked for, since most changes need none of it. */
+    /**
+     * Which points see one another. Each call of the face that needs it has it learned first: it is dear, and many
+     * changes of the polygon are followed by the next one at once.
+     */
     private static final class Sight {
         private final Plan plan;
         private final Lattice lattice;
@@ -1216,7 +1213,7 @@ public final class GalleryGuards {
             known = false;
         }
 
-        private void learn() {
+        void learn() {
             if (known) {
                 return;
             }
@@ -1224,10 +1221,17 @@ public final class GalleryGuards {
             for (int p = 0; p < MAX_POINTS; p++) {
                 rows[p] = 0L;
             }
+            linkPairs(false);
+            linkPairs(true);
+        }
+
+        /** The near pairs, with no lattice point between them, come first: the far ones are judged by them. */
+        private void linkPairs(boolean far) {
             for (int p = 0; p < lattice.count && p < MAX_POINTS; p++) {
                 rows[p] |= 1L << p;
                 for (int q = 0; q < p; q++) {
-                    if (inSight(p, q)) {
+                    int pieces = piecesOf(lattice.xOf(q) - lattice.xOf(p), lattice.yOf(q) - lattice.yOf(p));
+                    if (far ? pieces > 1 && isChained(p, q, pieces) : pieces == 1 && isClear(p, q)) {
                         rows[p] |= 1L << q;
                         rows[q] |= 1L << p;
                     }
@@ -1236,10 +1240,10 @@ public final class GalleryGuards {
         }
 
         /**
-         * If no edge crosses the segment, the rim can meet or leave it only at vertices and at its own ends, which
-         * are lattice points: so each piece from one lattice point to the next is judged by its middle.
+         * If no edge crosses the segment, the rim can meet or leave it only at vertices and at its own ends. All of
+         * these are lattice points, and there are none between its ends: so its middle tells of the whole of it.
          */
-        private boolean inSight(int p, int q) {
+        private boolean isClear(int p, int q) {
             int fromX = lattice.xOf(p);
             int fromY = lattice.yOf(p);
             int toX = lattice.xOf(q);
@@ -1249,15 +1253,23 @@ public final class GalleryGuards {
                     return false;
                 }
             }
-            int pieces = piecesOf(toX - fromX, toY - fromY);
-            int stepX = (toX - fromX) / pieces;
-            int stepY = (toY - fromY) / pieces;
-            for (int k = 0; k < pieces; k++) {
-                int middleX = 2 * fromX + (2 * k + 1) * stepX;
-                int middleY = 2 * fromY + (2 * k + 1) * stepY;
-                if (Outline.placeOf(plan, middleX, middleY) == Outline.OUTSIDE) {
+            return Outline.placeOf(plan, fromX + toX, fromY + toY) != Outline.OUTSIDE;
+        }
+
+        /** Whether each lattice point on the way from p to q sees the next one. */
+        private boolean isChained(int p, int q, int pieces) {
+            if (pieces < 1) {
+                return false;
+            }
+            int stepX = (lattice.xOf(q) - lattice.xOf(p)) / pieces;
+            int stepY = (lattice.yOf(q) - lattice.yOf(p)) / pieces;
+            int here = p;
+            for (int k = 1; k <= pieces; k++) {
+                int next = lattice.numberAt(lattice.xOf(p) + k * stepX, lattice.yOf(p) + k * stepY);
+                if (next == NONE || here < 0 || here >= MAX_POINTS || !has(rows[here], next)) {
                     return false;
                 }
+                here = next;
             }
             return true;
         }
@@ -1281,12 +1293,10 @@ public final class GalleryGuards {
         }
 
         long from(int point) {
-            learn();
             return point >= 0 && point < MAX_POINTS ? rows[point] : 0L;
         }
 
         long fromAnyOf(long set) {
-            learn();
             long seen = 0L;
             for (int p = 0; p < MAX_POINTS; p++) {
                 if (has(set, p)) {
@@ -1348,7 +1358,7 @@ public final class GalleryGuards {
         }
     }
 
-    /** The triangles of ear clipping and the three colours; worked out when they are first asked for. */
+    /** The triangles of ear clipping and the three colours, learned by the calls of the face that need them. */
     private static final class Triangulation {
         private static final int COLOURS = 3;
 
@@ -1371,7 +1381,6 @@ public final class GalleryGuards {
         }
 
         int cornerOf(int triangle, int k) {
-            learn();
             if (triangle < 0 || triangle >= MAX_TRIANGLES) {
                 return NONE;
             }
@@ -1383,7 +1392,6 @@ public final class GalleryGuards {
         }
 
         int colourOf(int vertex) {
-            learn();
             return vertex >= 0 && vertex < MAX_VERTICES ? colours[vertex] : NONE;
         }
 
@@ -1408,7 +1416,7 @@ public final class GalleryGuards {
             return set;
         }
 
-        private void learn() {
+        void learn() {
             if (known) {
                 return;
             }

@@ -193,6 +193,11 @@ public final class ChangesTest {
         }
         Probe.due("undo", g.undo(), 0);
         Probe.due("as at first", Probe.stateOf(g), "0,0 2,0 2,2 0,2 /9/4r1 /5 /0");
+        GalleryGuards three = Probe.loaded("polygon 0 0 2 0 0 2");
+        for (int v = 0; v < 3; v++) {
+            int vertex = v;
+            unchanged("one of three vertices", three, Probe.ARGUMENT, () -> three.deleteVertex(vertex));
+        }
         GalleryGuards square = Probe.loaded(Probe.SQUARE);
         Probe.due("deleteVertex(0)", square.deleteVertex(0), 6);
         Probe.due("the first one is gone", Probe.stateOf(square), "2,0 2,2 0,2 /6///1");

@@ -162,6 +162,8 @@ public final class InputTest {
     }
 
     private static void badPolygons() {
+        badEveryWay("5 5 5 5 5 5");
+        badEveryWay("5 5 5 5 5 5 5 5");
         badEveryWay("0 0 0 0 1 1");
         badEveryWay("0 0 1 0 2 0");
         badEveryWay("0 0 3 0 1 0 1 3");

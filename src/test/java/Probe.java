@@ -32,6 +32,19 @@ final class Probe {
         }
     }
 
+    /** Runs the test of one sentence; whatever it throws is wrong, and the next sentence's test goes on. */
+    static void sentence(String sentence, Runnable test) {
+        int wrongBefore = wrong;
+        try {
+            test.run();
+        } catch (RuntimeException e) {
+            due("its test", e, "no exception");
+        }
+        if (wrong != wrongBefore) {
+            System.out.println("BROKEN " + sentence);
+        }
+    }
+
     static void fails(String what, Class<?> want, Call call) {
         String got;
         try {
@@ -105,8 +118,12 @@ final class Probe {
         return set;
     }
 
-    /** All that the state can be told by, as one text: for calls that must change nothing, and for undo. */
+    /** All that the state can be told by and how much can be undone: for calls that must change nothing, and for undo. */
     static String stateOf(GalleryGuards g) {
+        return planOf(g) + '/' + g.undoable();
+    }
+
+    static String planOf(GalleryGuards g) {
         StringBuilder s = new StringBuilder();
         for (int v = 0; v < g.vertices(); v++) {
             s.append(g.vertexX(v)).append(',').append(g.vertexY(v)).append(' ');
@@ -119,7 +136,7 @@ final class Probe {
         for (int i = 0; i < g.treasures(); i++) {
             s.append(g.treasureAt(i)).append(' ');
         }
-        return s.append('/').append(g.undoable()).toString();
+        return s.toString();
     }
 
     private Probe() {

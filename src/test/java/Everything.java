@@ -5,19 +5,28 @@ import java.util.Arrays;
 import java.util.Comparator;
 import java.util.List;
 
-/** All that can be found out about an object, as a text: two objects that answer alike in all of it are in one state. */
+/** All that can be found out about an object, as a text: objects that answer alike in all of it are in one state. */
 final class Everything {
-    private static final List<String> CHANGING = List.of("append", "load", "draw", "addGuard", "removeGuard", "moveGuard",
-            "setRange", "moveVertex", "insertVertex", "deleteVertex", "undo", "save", "restore");
+    private static final List<String> CHANGING = List.of("append", "load", "draw", "addGuard", "removeGuard",
+            "moveGuard", "setRange", "moveVertex", "insertVertex", "deleteVertex", "undo", "save", "restore");
     private static final int[] NUMBERS = {-1, 0, 1, 2, 3, 4, 5, 6, 7, 8, 9, 10, 11, 12, 13, 14, 15, 16, 24, 63, 64};
 
     /** What the calls answer that only ask. */
     static String asked(GalleryGuards g) {
+        return asked(g, List.of());
+    }
+
+    /** The same, but for what is no part of the state. */
+    static String askedOfState(GalleryGuards g) {
+        return asked(g, List.of("buffered", "parseError", "errorPosition", "undoable", "drawnByte"));
+    }
+
+    private static String asked(GalleryGuards g, List<String> not) {
         Method[] methods = GalleryGuards.class.getDeclaredMethods();
         Arrays.sort(methods, Comparator.comparing(Method::getName));
         StringBuilder told = new StringBuilder();
         for (Method m : methods) {
-            if (Modifier.isPublic(m.getModifiers()) && !CHANGING.contains(m.getName())) {
+            if (Modifier.isPublic(m.getModifiers()) && !CHANGING.contains(m.getName()) && !not.contains(m.getName())) {
                 askAll(g, m, told);
             }
         }
@@ -56,15 +65,23 @@ final class Everything {
 
     /** What asking tells, and then what undo, restore and load bring to light; the object is spent afterwards. */
     static String of(GalleryGuards g) {
-        StringBuilder told = new StringBuilder(asked(g));
+        return asked(g) + keptBy(g) + "load " + answerOf(() -> g.load(g.buffered())) + ' ' + asked(g);
+    }
+
+    /** The same, but for the input buffer and the latest error. */
+    static String butInput(GalleryGuards g) {
+        return asked(g, List.of("buffered", "parseError", "errorPosition")) + keptBy(g);
+    }
+
+    private static String keptBy(GalleryGuards g) {
+        StringBuilder told = new StringBuilder();
         for (int i = 0; i < 10; i++) {
             told.append("undo ").append(answerOf(() -> g.undo())).append(' ').append(Probe.stateOf(g)).append('\n');
         }
         for (int slot = 1; slot >= 0; slot--) {
             int number = slot;
-            told.append("restore ").append(answerOf(() -> g.restore(number))).append(' ').append(asked(g)).append('\n');
+            told.append("restore ").append(answerOf(() -> g.restore(number))).append(' ').append(askedOfState(g));
         }
-        told.append("load ").append(answerOf(() -> g.load(g.buffered()))).append(' ').append(asked(g)).append('\n');
         return told.toString();
     }
 

@@ -53,7 +53,7 @@ final class FewestSentences extends Sentences {
         });
         says("of several such sets the one that is smallest as a number.", () -> {
             due("each vertex sees all", loaded(TWELVE).vertexGuards(), 1);
-            for (String numbers : Shapes.DRAWN) {
+            for (String numbers : Shapes.bothWays()) {
                 GalleryGuards g = loaded("polygon " + numbers);
                 long[] views = new long[g.vertices()];
                 for (int v = 0; v < views.length; v++) {
@@ -79,7 +79,7 @@ final class FewestSentences extends Sentences {
         });
         says("of several such sets the one that is smallest as a number.", () -> {
             due("each edge sees all", loaded(TWELVE).edgeGuards(), 1);
-            for (String numbers : Shapes.DRAWN) {
+            for (String numbers : Shapes.bothWays()) {
                 GalleryGuards g = loaded("polygon " + numbers);
                 long[] views = new long[g.vertices()];
                 for (int e = 0; e < views.length; e++) {
@@ -98,7 +98,7 @@ final class FewestSentences extends Sentences {
     private void guardNumber() {
         promise(30);
         says("Returns the smallest number of points that together see all points.", () -> {
-            for (String numbers : Shapes.DRAWN) {
+            for (String numbers : Shapes.bothWays()) {
                 GalleryGuards g = loaded("polygon " + numbers);
                 due("guardNumber of " + numbers, g.guardNumber(), firstCover(g).size());
             }
@@ -157,7 +157,7 @@ final class FewestSentences extends Sentences {
             GalleryGuards you = loaded(Probe.YOU);
             due("the first of two", you.guardPoint(0), 0);
             due("the second of two", you.guardPoint(1), 2);
-            for (String numbers : Shapes.DRAWN) {
+            for (String numbers : Shapes.bothWays()) {
                 GalleryGuards g = loaded("polygon " + numbers);
                 List<Integer> found = new ArrayList<>();
                 for (int i = 0; i < g.guardNumber(); i++) {
@@ -170,7 +170,10 @@ final class FewestSentences extends Sentences {
             below(1, loaded(Probe.ELL), GalleryGuards::guardPoint);
             below(4, loaded(Probe.COMB), GalleryGuards::guardPoint);
         });
-        says("Returns the number of the point.", () -> due("in the turned ell", loaded(turnedEll()).guardPoint(0), 0));
+        says("Returns the number of the point.", () -> {
+            due("the first one", loaded(turnedEll()).guardPoint(0), 0);
+            due("the last one of 64", loaded("polygon " + Shapes.LAST_SEES_ALL).guardPoint(0), 63);
+        });
         says(NO_POLYGON, () -> noPolygon(g -> g.guardPoint(0), g -> g.guardPoint(-1), g -> g.guardPoint(4)));
         says(NO_INDEX, () -> {
             below(1, loaded(FULL), GalleryGuards::guardPoint);
@@ -189,7 +192,8 @@ final class FewestSentences extends Sentences {
         return apartFrom(points, 0, new ArrayList<>(), new ArrayList<>(), apart);
     }
 
-    private static List<Integer> apartFrom(int points, int first, List<Integer> taken, List<Integer> best, Apart apart) {
+    private static List<Integer> apartFrom(int points, int first, List<Integer> taken, List<Integer> best,
+            Apart apart) {
         List<Integer> found = taken.size() > best.size() ? new ArrayList<>(taken) : best;
         for (int p = first; p < points; p++) {
             boolean free = true;
@@ -212,13 +216,13 @@ final class FewestSentences extends Sentences {
     private void witnessNumber() {
         promise(32);
         says("Returns the greatest number of points of which no two are seen by the same point.", () -> {
-            for (String numbers : Shapes.DRAWN) {
+            for (String numbers : Shapes.bothWays()) {
                 GalleryGuards g = loaded("polygon " + numbers);
                 due("witnessNumber of " + numbers, g.witnessNumber(), firstWitnesses(g).size());
             }
         });
         says("(No set of fewer points can see all of them.)", () -> {
-            for (String numbers : Shapes.DRAWN) {
+            for (String numbers : Shapes.bothWays()) {
                 GalleryGuards g = loaded("polygon " + numbers);
                 due("at most guardNumber in " + numbers, g.witnessNumber() <= g.guardNumber(), true);
             }
@@ -235,7 +239,8 @@ final class FewestSentences extends Sentences {
 
     private void witness() {
         promise(33);
-        says("Returns a point of the best set of witnessNumber points of which no two are seen by the same point:", () -> {
+        says("Returns a point of the best set of witnessNumber points of which no two are seen by the same point:",
+                () -> {
             GalleryGuards g = loaded(Probe.COMB);
             for (int i = 0; i < 4; i++) {
                 for (int k = 0; k < i; k++) {
@@ -248,7 +253,7 @@ final class FewestSentences extends Sentences {
             GalleryGuards you = loaded(Probe.YOU);
             due("the first of two", you.witness(0), 9);
             due("the second of two", you.witness(1), 10);
-            for (String numbers : Shapes.DRAWN) {
+            for (String numbers : Shapes.bothWays()) {
                 GalleryGuards g = loaded("polygon " + numbers);
                 List<Integer> found = new ArrayList<>();
                 for (int i = 0; i < g.witnessNumber(); i++) {
@@ -261,7 +266,10 @@ final class FewestSentences extends Sentences {
             below(1, loaded(Probe.ELL), GalleryGuards::witness);
             below(4, loaded(Probe.COMB), GalleryGuards::witness);
         });
-        says("Returns the number of the point.", () -> due("in the turned ell", loaded(turnedEll()).witness(0), 0));
+        says("Returns the number of the point.", () -> {
+            due("the first one", loaded("polygon " + Shapes.LAST_IS_FARTHEST).witness(0), 0);
+            due("the last one of 64", loaded("polygon " + Shapes.LAST_IS_FARTHEST).witness(1), 63);
+        });
         says(NO_POLYGON, () -> noPolygon(g -> g.witness(0), g -> g.witness(-1), g -> g.witness(4)));
         says(NO_INDEX, () -> {
             below(1, loaded(FULL), GalleryGuards::witness);
@@ -277,7 +285,7 @@ final class FewestSentences extends Sentences {
     private void hiddenNumber() {
         promise(34);
         says("Returns the greatest number of points of which no two see each other.", () -> {
-            for (String numbers : Shapes.DRAWN) {
+            for (String numbers : Shapes.bothWays()) {
                 GalleryGuards g = loaded("polygon " + numbers);
                 due("hiddenNumber of " + numbers, g.hiddenNumber(),
                         largestApart(g.points(), (p, q) -> !has(g.visible(p), q)).size());

@@ -63,7 +63,8 @@ final class GuardSentences extends Sentences {
                     + ";guard 0 0 range 10");
             int[][] places = {{3, 4, 1}, {4, 3, 1}, {5, 0, 1}, {0, 5, 1}, {5, 1, 0}, {1, 5, 0}, {4, 4, 0}, {6, 0, 0}};
             for (int[] place : places) {
-                due("(" + place[0] + ", " + place[1] + ")", has(g.watched(0), at(g, place[0], place[1])), place[2] == 1);
+                boolean watched = has(g.watched(0), at(g, place[0], place[1]));
+                due("(" + place[0] + ", " + place[1] + ")", watched, place[2] == 1);
             }
             due("the range 0", g.watched(1), 1);
             due("the range 1", g.watched(2), set(0, 1, 8));
@@ -220,10 +221,12 @@ final class GuardSentences extends Sentences {
             below(16, loaded(Probe.ELL + ";guard 0 0"), GalleryGuards::watchers);
         });
         promise(41);
-        says("Returns the guards without which, one at a time, no point that is watched now would be unwatched.", () -> {
+        says("Returns the guards without which, one at a time, no point that is watched now would be unwatched.",
+                () -> {
             // each of the two can go, though not both
             due("two of a kind", loaded(Probe.SQUARE + ";guard 1 1;guard 1 1").redundantGuards(), 3);
-            due("one within another", loaded(Probe.SQUARE + ";guard 0 0 range 1;guard 0 0 range 2").redundantGuards(), 1);
+            due("one within another",
+                    loaded(Probe.SQUARE + ";guard 0 0 range 1;guard 0 0 range 2").redundantGuards(), 1);
             due("a guard alone", loaded(Probe.SQUARE + ";guard 1 1 range 0").redundantGuards(), 0);
             // points that are unwatched anyway do not count
             due("much is unwatched", loaded(FULL + ";guard 0 0 range 0;guard 0 0 range 0").redundantGuards(), 3);
@@ -252,6 +255,7 @@ final class GuardSentences extends Sentences {
         });
         says("Returns the number of the point, of several the smallest one.", () -> {
             due("each point sees all", loaded(FULL).bestPoint(), 0);
+            due("the last of 64 alone does", loaded("polygon " + Shapes.LAST_SEES_ALL).bestPoint(), 63);
             due("all are watched", loaded(FULL + ";guard 3 3").bestPoint(), 0);
             due("2, 3, 6 and 7 see as many", loaded(Probe.YOU + ";guard 0 3").bestPoint(), 2);
         });
@@ -349,6 +353,7 @@ final class GuardSentences extends Sentences {
             due("the better one of two", loaded(text + ";guard 0 3 range 0;guard 3 3 range 0").bestValue(), 350);
             GalleryGuards full = loaded(FULL + ";treasure 7 7 999;guard 0 0 range 0");
             due("to point 63", full.bestValue(), 999);
+            due("to point 0", loaded(FULL + ";treasure 0 0 999;guard 7 7 range 0").bestValue(), 999);
             due("the guard itself is not moved", full.guardAt(0), 0);
             due("it is no change", full.undoable(), 0);
         });

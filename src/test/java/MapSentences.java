@@ -139,8 +139,8 @@ final class MapSentences extends Sentences {
         says("Returns the byte.", () -> {
             GalleryGuards g = loaded(Probe.SQUARE + ";guard 0 1 range 1;treasure 0 0 1");
             g.draw(0);
-            due("T, minus, V, blank", g.drawnByte(0) + " " + g.drawnByte(1) + " " + g.drawnByte(2) + " " + g.drawnByte(3),
-                    "84 45 86 32");
+            due("T, minus", g.drawnByte(0) + " " + g.drawnByte(1), "84 45");
+            due("V, blank", g.drawnByte(2) + " " + g.drawnByte(3), "86 32");
             g.draw(1);
             due("G, plus", g.drawnByte(0) + " " + g.drawnByte(1), "71 43");
         });

@@ -25,8 +25,8 @@ final class PolygonSentences extends Sentences {
 
     private void whatItIs() {
         part("What it is");
-        says("A workbench for art gallery problems: guards, visibility and triangulations in a simple polygon with integer "
-                + "coordinates.", () -> {
+        says("A workbench for art gallery problems: guards, visibility and triangulations in a simple polygon with "
+                + "integer coordinates.", () -> {
             GalleryGuards g = loaded(Probe.SQUARE);
             due("guards", g.guardNumber(), 1);
             due("visibility", g.kernel(), 511);
@@ -299,14 +299,19 @@ final class PolygonSentences extends Sentences {
         says("Returns the vertices at which the angle inside the polygon is greater than 180 degrees.", () -> {
             due("you", loaded(Probe.YOU).reflexVertices(), 1 << 4 | 1 << 5);
             due("you, clockwise", loaded("polygon 0 3 1 3 1 1 2 1 2 3 3 3 3 0 0 0").reflexVertices(), 1 << 2 | 1 << 3);
-            due("exactly 180 degrees", loaded(TWELVE).reflexVertices(), 0);
-            due("a little more", loaded("polygon 0 0 7 1 15 2 15 3 0 3").reflexVertices(), 1 << 1);
-            due("a little less", loaded("polygon 0 0 8 1 15 2 15 3 0 3").reflexVertices(), 0);
+            // exactly 180 degrees, a little more and a little less, in both directions
+            due("180", loaded(TWELVE).reflexVertices(), 0);
+            due("180, clockwise", loaded("polygon 0 0 0 2 0 4 2 4 4 4 4 2 4 0 2 0").reflexVertices(), 0);
+            due("more", loaded("polygon 0 0 7 1 15 2 15 3 0 3").reflexVertices(), 1 << 1);
+            due("more, clockwise", loaded("polygon 0 3 15 3 15 2 7 1 0 0").reflexVertices(), 1 << 3);
+            due("less", loaded("polygon 0 0 8 1 15 2 15 3 0 3").reflexVertices(), 0);
+            due("less, clockwise", loaded("polygon 0 3 15 3 15 2 8 1 0 0").reflexVertices(), 0);
             due("at vertex 0", loaded("polygon 2 2 0 4 0 0 4 0 4 4").reflexVertices(), 1);
             due("at the last vertex", loaded("polygon 0 4 0 0 4 0 4 4 2 2").reflexVertices(), 1 << 4);
         });
         says("Returns the set of vertices.", () -> {
             due("none", loaded(TRIANGLE).reflexVertices(), 0);
+            everyWay("0 0 1 0 0 1", text -> due("none of the smallest one", loaded(text).reflexVertices(), 0));
             due("vertex 11", loaded(NOTCHED).reflexVertices(), 1 << 11);
         });
         says(NO_POLYGON, () -> noPolygon(GalleryGuards::reflexVertices));

@@ -118,7 +118,7 @@ final class Probe {
         return set;
     }
 
-    /** All that the state can be told by and how much can be undone: for calls that must change nothing, and for undo. */
+    /** All that the state can be told by and how much can be undone: for undo, and calls that must change nothing. */
     static String stateOf(GalleryGuards g) {
         return planOf(g) + '/' + g.undoable();
     }

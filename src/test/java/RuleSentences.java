@@ -120,9 +120,10 @@ final class RuleSentences extends Sentences {
                 g -> g.draw(0), g -> g.drawnByte(0), g -> g.addGuard(0, 0), g -> g.moveVertex(0, 0, 0)};
             refusesAll(RuleSentences::busy, REFUSED);
             refusesAll(GalleryGuards::new, ofBare);
-            Ask[] ofBrimful = {g -> g.addGuard(0, 100), g -> g.addGuard(16, 0), g -> g.removeGuard(6), g -> g.moveGuard(0, -1),
-                g -> g.setRange(0, -1), g -> g.moveVertex(0, 4, 0), g -> g.insertVertex(0, 4, 0), g -> g.deleteVertex(0),
-                g -> g.restore(2), g -> g.drawnByte(0), g -> g.draw(99), g -> g.load(1)};
+            Ask[] ofBrimful = {g -> g.addGuard(0, 100), g -> g.addGuard(17, 0), g -> g.removeGuard(6),
+                g -> g.moveGuard(0, -1), g -> g.setRange(0, -1), g -> g.moveVertex(0, 4, 0),
+                g -> g.insertVertex(0, 4, 0), g -> g.deleteVertex(0), g -> g.restore(2), g -> g.drawnByte(0),
+                g -> g.draw(99), g -> g.load(1)};
             refusesAll(RuleSentences::brimful, ofBrimful);
             Ask[] ofFull = {g -> g.moveVertex(2, 8, 8), g -> g.insertVertex(1, 8, 3), g -> g.moveVertex(2, 6, 6),
                 g -> g.deleteVertex(0), g -> g.restore(0), GalleryGuards::undo};
@@ -134,11 +135,15 @@ final class RuleSentences extends Sentences {
             due("buffered()", g.buffered(), 0);
             due("parseError()", g.parseError(), 1);
             due("errorPosition()", g.errorPosition(), 37);
-            // the rest is as in an object that made another vain call of load
-            GalleryGuards twin = busy();
-            fails("load(0)", ARGUMENT, () -> twin.load(0));
-            fails("load(0)", ARGUMENT, () -> g.load(0));
-            same("the rest", Everything.of(g), Everything.of(twin));
+            same("the rest", Everything.butInput(g), Everything.butInput(busy()));
+            String[] texts = {"", "polygon 16", "polygon 0 0 1 0 2 0", FULL + ";guard 8 8", TWELVE + " 1 1",
+                Probe.SQUARE + ";guard 0 0;treasure 0 0 1;"};
+            for (String text : texts) {
+                GalleryGuards full = brimful();
+                Probe.append(full, text);
+                fails("load of " + text, ARGUMENT, () -> full.load(text.length()));
+                same("the rest after " + text, Everything.butInput(full), Everything.butInput(brimful()));
+            }
         });
     }
 
@@ -219,6 +224,28 @@ final class RuleSentences extends Sentences {
         });
     }
 
+    /** After each change, and each of them undone, the answers are those of an object that loaded that polygon. */
+    private static void numberedAnew() {
+        String lines = ";guard 0 0 range 2;guard 3 3;treasure 3 0 5";
+        String[] texts = {Probe.YOU, "polygon 0 0 3 0 3 3 2 3 2 1 1 2 1 3 0 3",
+            "polygon 0 0 3 0 3 3 2 3 2 1 1 2 1 3 0 4 0 3", "polygon 0 0 3 0 3 3 2 3 2 1 1 3 0 4 0 3",
+            "polygon 0 0 3 0 3 3 2 3 1 3 0 4 0 3"};
+        Ask[] changes = {h -> h.moveVertex(5, 1, 2), h -> h.insertVertex(6, 0, 4), h -> h.deleteVertex(5),
+            h -> h.deleteVertex(4)};
+        GalleryGuards g = loaded(texts[0] + lines);
+        Everything.asked(g);
+        for (int i = 0; i < changes.length; i++) {
+            changes[i].of(g);
+            same("the answers after change " + i, Everything.askedOfState(g),
+                    Everything.askedOfState(loaded(texts[i + 1] + lines)));
+        }
+        for (int i = changes.length - 1; i >= 0; i--) {
+            g.undo();
+            same("the answers after undo " + i, Everything.askedOfState(g),
+                    Everything.askedOfState(loaded(texts[i] + lines)));
+        }
+    }
+
     private void polygonChanges() {
         says("If a change alters the polygon, its points are numbered anew;", () -> {
             GalleryGuards g = loaded(Probe.SQUARE);
@@ -231,6 +258,7 @@ final class RuleSentences extends Sentences {
             due("(0, 0)", g.pointAt(0, 0), -1);
             g.undo();
             due("(2, 0) after undo", g.pointAt(2, 0), 2);
+            numberedAnew();
         });
         says("guards and treasures keep their coordinates.", () -> {
             GalleryGuards g = loaded(Probe.SQUARE + ";guard 2 2 range 1;treasure 0 2 5");
@@ -285,7 +313,8 @@ final class RuleSentences extends Sentences {
             due("64 by deleteVertex", less.deleteVertex(4), 64);
         });
         says("and all guards and treasures are at points of it.", () -> {
-            String[] things = {"guard 2 2 range 0", "guard 1 1;guard 2 2", "treasure 2 2 5", "treasure 1 1 5;treasure 2 2 5"};
+            String[] things = {"guard 2 2 range 0", "guard 1 1;guard 2 2", "treasure 2 2 5",
+                "treasure 1 1 5;treasure 2 2 5"};
             for (String thing : things) {
                 GalleryGuards g = loaded(Probe.SQUARE + ";" + thing);
                 leavesAll(g, ARGUMENT, () -> g.moveVertex(2, 1, 1));

@@ -4,6 +4,11 @@ import java.util.Random;
 
 /** Polygons for the tests: some that were drawn by hand, and any number grown by chance. */
 final class Shapes {
+    /** 64 points, of which the last one alone sees all. */
+    static final String LAST_SEES_ALL = "6 10 0 1 5 1 6 9 6 0 7 1 7 7 9 2 13 2";
+    /** 64 points, of which the last one is the farthest from the first one; these two are the witnesses. */
+    static final String LAST_IS_FARTHEST = "0 13 11 9 13 10 6 5 10 4 11 3 10 0 1 1 3 6 8 10";
+
     /** Each is the X and Y numbers of a text: combs, spirals, stars, flat angles, thin and large ones. */
     static final String[] DRAWN = {
         "0 0 2 0 2 2 0 2",
@@ -35,7 +40,27 @@ final class Shapes {
         // 64 points, and a notch
         "0 0 3 0 3 15 0 15",
         "0 0 7 0 7 7 0 7 1 4",
+        LAST_SEES_ALL,
+        LAST_IS_FARTHEST,
+        // point 0 is the only end of an edge to see what the edge sees, or not seen by those who see the rest
+        "1 1 10 10 9 2 10 2",
+        "4 4 6 2 1 1 5 2",
+        // at most three hidden points, though there are more sets of them than one would look at
+        "3 2 2 7 1 10 2 9 4 4 6 8 5 3 5 0",
     };
+
+    /** The drawn ones, as they are and turned by 180 degrees, which turns the order of their points round. */
+    static List<String> bothWays() {
+        List<String> shapes = new ArrayList<>(List.of(DRAWN));
+        for (String numbers : DRAWN) {
+            List<int[]> turned = new ArrayList<>();
+            for (int[] c : corners(numbers)) {
+                turned.add(new int[] {15 - c[0], 15 - c[1]});
+            }
+            shapes.add(numbers(turned));
+        }
+        return shapes;
+    }
 
     static List<int[]> corners(String numbers) {
         List<int[]> corners = new ArrayList<>();

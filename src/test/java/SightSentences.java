@@ -75,7 +75,7 @@ final class SightSentences extends Sentences {
             see(loaded("polygon 0 0 5 0 5 2 4 1 3 2 1 2 0 4"), 1, 2, 5, 2, false);
         });
         says("Each point sees itself.", () -> {
-            for (String numbers : Shapes.DRAWN) {
+            for (String numbers : Shapes.bothWays()) {
                 GalleryGuards g = loaded("polygon " + numbers);
                 for (int p = 0; p < g.points(); p++) {
                     due("point " + p + " of " + numbers, g.sees(p, p), true);
@@ -86,7 +86,8 @@ final class SightSentences extends Sentences {
     }
 
     private void paths() {
-        says("The link distance of two points is the smallest number of segments of a path from one to the other", () -> {
+        says("The link distance of two points is the smallest number of segments of a path from one to the other",
+                () -> {
             GalleryGuards you = loaded(Probe.YOU);
             due("in one arm", you.linkDistance(at(you, 0, 0), at(you, 1, 3)), 1);
             due("(0, 3) to (3, 2), by (2, 1)", you.linkDistance(at(you, 0, 3), at(you, 3, 2)), 2);
@@ -95,7 +96,7 @@ final class SightSentences extends Sentences {
             due("a spiral's ends", spiral.linkDistance(at(spiral, 0, 0), at(spiral, 6, 4)), 5);
         });
         says("whose segments each join two points that see each other;", () -> {
-            for (String numbers : Shapes.DRAWN) {
+            for (String numbers : Shapes.bothWays()) {
                 GalleryGuards g = loaded("polygon " + numbers);
                 for (int p = 0; p < g.points(); p += 3) {
                     int[] links = linksFrom(g, p);
@@ -216,7 +217,8 @@ final class SightSentences extends Sentences {
         says("Returns the points that see all points.", () -> {
             due("ell", loaded(Probe.ELL).kernel(), set(0, 1, 5, 6));
             due("square", loaded(Probe.SQUARE).kernel(), 511);
-            due("one point", loaded("polygon 4 0 5 3 8 4 5 5 4 8 3 5 0 4 3 3").kernel(), kernelOfStar());
+            due("one point, the last of 64", loaded("polygon " + Shapes.LAST_SEES_ALL).kernel(), Long.MIN_VALUE);
+            due("nine points", loaded("polygon 4 0 5 3 8 4 5 5 4 8 3 5 0 4 3 3").kernel(), kernelOfStar());
         });
         says("Returns the set of points, possibly empty.", () -> {
             due("none", loaded(Probe.YOU).kernel(), 0);
@@ -261,7 +263,7 @@ final class SightSentences extends Sentences {
             due("ell", loaded(Probe.ELL).diameter(), 2);
             due("you", loaded(Probe.YOU).diameter(), 3);
             due("spiral", loaded(SPIRAL).diameter(), 5);
-            for (String numbers : Shapes.DRAWN) {
+            for (String numbers : Shapes.bothWays()) {
                 GalleryGuards g = loaded("polygon " + numbers);
                 int most = 0;
                 for (int p = 0; p < g.points(); p++) {
@@ -289,7 +291,8 @@ final class SightSentences extends Sentences {
             due("from 0, all are as far", loaded(FULL).farthest(0), 1);
             due("from 1, all are as far", loaded(FULL).farthest(1), 0);
             due("from 63, all are as far", loaded(FULL).farthest(63), 0);
-            for (String numbers : Shapes.DRAWN) {
+            due("63 alone is farthest", loaded("polygon " + Shapes.LAST_IS_FARTHEST).farthest(0), 63);
+            for (String numbers : Shapes.bothWays()) {
                 GalleryGuards g = loaded("polygon " + numbers);
                 for (int p = 0; p < g.points(); p++) {
                     int best = 0;
@@ -304,6 +307,19 @@ final class SightSentences extends Sentences {
         says(NO_POINT, () -> below(16, loaded(Probe.ELL), GalleryGuards::farthest));
     }
 
+    /** What the points see together for which the way from end to end of the edge is no detour. */
+    private static long seenFrom(GalleryGuards g, int edge) {
+        int next = (edge + 1) % g.vertices();
+        double length = Math.hypot(g.vertexX(next) - g.vertexX(edge), g.vertexY(next) - g.vertexY(edge));
+        long seen = 0;
+        for (int p = 0; p < g.points(); p++) {
+            double there = Math.hypot(g.pointX(p) - g.vertexX(edge), g.pointY(p) - g.vertexY(edge));
+            double onwards = Math.hypot(g.vertexX(next) - g.pointX(p), g.vertexY(next) - g.pointY(p));
+            seen |= there + onwards < length + 1e-9 ? g.visible(p) : 0;
+        }
+        return seen;
+    }
+
     private void edgePromise() {
         promise(23);
         says("Returns the points that an edge sees.", () -> {
@@ -314,7 +330,15 @@ final class SightSentences extends Sentences {
             due("an arm's outer edge", you.seenFromEdge(7), 65535 ^ set(10, 11, 14, 15));
             due("an arm's end", you.seenFromEdge(6), set(0, 1, 4, 5, 8, 9, 12, 13));
         });
-        says("- `edge`: number of the edge", () -> below(12, loaded(TWELVE), GalleryGuards::seenFromEdge));
+        says("- `edge`: number of the edge", () -> {
+            for (String numbers : Shapes.bothWays()) {
+                GalleryGuards g = loaded("polygon " + numbers);
+                for (int e = 0; e < g.vertices(); e++) {
+                    due("seenFromEdge(" + e + ") of " + numbers, g.seenFromEdge(e), seenFrom(g, e));
+                }
+            }
+            below(12, loaded(TWELVE), GalleryGuards::seenFromEdge);
+        });
         says("Returns the set of points.", () -> due("64 points", loaded(FULL).seenFromEdge(3), -1L));
         says(NO_POLYGON, () -> noPolygon(g -> g.seenFromEdge(0), g -> g.seenFromEdge(-1), g -> g.seenFromEdge(12)));
         says("Throws `IndexOutOfBoundsException` if there is no such edge", () -> {

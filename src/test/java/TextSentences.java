@@ -122,6 +122,11 @@ final class TextSentences extends Sentences {
             Probe.refused("polyline 0 0 2 0 2 2", 1, 0);
             Probe.refused("\"polygon\" 0 0 2 0 2 2", 1, 0);
             Probe.refused(THREE + "\";\" guard 1 1", 1, 19);
+            // each letter of each literal
+            oneLetterOff("", "polygon", " 0 0 2 0 2 2");
+            oneLetterOff(THREE + ";", "guard", " 1 1");
+            oneLetterOff(THREE + ";", "treasure", " 1 1 5");
+            oneLetterOff(THREE + ";guard 1 1 ", "range", " 5");
         });
         says("text = \"polygon\" X Y X Y X Y {X Y} {\";\" line}", () -> {
             Probe.refused("0 0 2 0 2 2", 1, 0);
@@ -171,6 +176,15 @@ final class TextSentences extends Sentences {
             Probe.refused(THREE + ";treasure 1 1 5 5", 1, 35);
             Probe.refused(THREE + ";treasure 1 1 5 range 5", 1, 35);
         });
+    }
+
+    private static void oneLetterOff(String before, String word, String behind) {
+        Probe.accepted(before + word + behind, 6);
+        for (int i = 0; i < word.length(); i++) {
+            String other = word.substring(0, i) + (char) (word.charAt(i) + 1) + word.substring(i + 1);
+            Probe.refused(before + other + behind, 1, before.length());
+            Probe.refused(before + word.substring(0, i) + word.substring(i + 1) + behind, 1, before.length());
+        }
     }
 
     private void bounds() {
@@ -269,8 +283,8 @@ final class TextSentences extends Sentences {
     private void errorOne() {
         says("1: a byte that starts no token,", () -> {
             for (int other = 0; other < 256; other++) {
-                boolean starts = other == ' ' || other == ';' || other >= '0' && other <= '9' || other >= 'a' && other <= 'z';
-                if (!starts) {
+                boolean letterOrDigit = other >= '0' && other <= '9' || other >= 'a' && other <= 'z';
+                if (!letterOrDigit && other != ' ' && other != ';') {
                     Probe.refused(String.valueOf((char) other), 1, 0);
                     Probe.refused(THREE + ";guard 1 1" + (char) other, 1, 29);
                 }
@@ -528,6 +542,12 @@ final class TextSentences extends Sentences {
             reload(g, Probe.ELL + ";treasure 0 0 1;guard 1 4 range 3");
             due("with others", Probe.stateOf(g), "0,0 4,0 4,1 1,1 1,4 0,4 /16/15r3 /0 /0");
             due("what is seen", g.visible(9), 1023);
+            // no answer is left over from the polygon before
+            for (String numbers : Shapes.DRAWN) {
+                reload(g, "polygon " + numbers);
+                same("the answers for " + numbers, Everything.askedOfState(g),
+                        Everything.askedOfState(loaded("polygon " + numbers)));
+            }
         });
         says("nothing can be undone,", () -> {
             GalleryGuards g = loaded(Probe.SQUARE);
@@ -562,9 +582,8 @@ final class TextSentences extends Sentences {
     }
 
     private void loadErrors() {
-        String tooMany = "Throws `IndexOutOfBoundsException` if n is negative or greater than the number of bytes in the"
-                + " buffer;";
-        says(tooMany, () -> {
+        says("Throws `IndexOutOfBoundsException` if n is negative or greater than the number of bytes in the buffer;",
+                () -> {
             GalleryGuards g = new GalleryGuards();
             fails("load(1) of none", INDEX, () -> g.load(1));
             fails("load(-1) of none", INDEX, () -> g.load(-1));
@@ -603,6 +622,7 @@ final class TextSentences extends Sentences {
         });
         says("the previous polygon stays", () -> {
             GalleryGuards g = loaded(Probe.ELL + ";guard 0 0 range 2;treasure 4 0 5");
+            g.save(1);
             g.setRange(0, 3);
             g.save(0);
             g.setRange(0, 4);
@@ -617,14 +637,17 @@ final class TextSentences extends Sentences {
             }
             due("what can be undone", g.undo(), 1);
             due("the range", g.guardRange(0), 3);
-            due("what is saved", g.restore(0), 16);
-            fails("what is not saved", STATE, () -> g.restore(1));
+            g.restore(1);
+            due("the range saved in slot 1", g.guardRange(0), 2);
+            g.restore(0);
+            due("the range saved in slot 0", g.guardRange(0), 3);
         });
     }
 
     private void latestError() {
         promise(4);
-        says("Returns the parse error code of the latest call of load that did not throw IndexOutOfBoundsException.", () -> {
+        says("Returns the parse error code of the latest call of load that did not throw IndexOutOfBoundsException.",
+                () -> {
             GalleryGuards g = new GalleryGuards();
             Probe.refusedBy(g, "polygon 16", 2, 8);
             fails("load(1)", INDEX, () -> g.load(1));

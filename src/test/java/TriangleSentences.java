@@ -60,6 +60,10 @@ final class TriangleSentences extends Sentences {
             cut("polygon 0 6 0 0 6 0 1 1", "013 123");
             cut("polygon 6 0 0 0 0 6 1 1", "013 123");
             cut("polygon 6 6 0 6 0 0 6 0 5 4", "014 124 234");
+            // a vertex as near to the triangle as can be, but outside
+            cut("polygon 4 1 5 0 4 0 1 2 4 2", "012 023 034");
+            cut("polygon 0 7 1 9 0 9 3 11 4 12", "123 013 034");
+            cut("polygon 2 2 3 8 4 5 5 1", "013 123");
         });
         says("nor on its boundary.", () -> {
             // (3, 3) is on the side across from vertex 0: with a flat angle there, then with more than 180 degrees
@@ -69,6 +73,7 @@ final class TriangleSentences extends Sentences {
             // the same from the next vertex on, and in the other direction
             cut("polygon 6 0 6 6 3 3 0 6 0 0", "012 024 234");
             cut("polygon 0 6 3 3 6 6 6 0 0 0", "014 123 134");
+            cut("polygon 4 0 4 1 4 2 3 2 0 2", "014 123 134");
         });
     }
 

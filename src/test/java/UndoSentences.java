@@ -148,6 +148,7 @@ final class UndoSentences extends Sentences {
             g.save(1);
             g.moveVertex(4, 2, 4);
             g.moveGuard(0, 3);
+            Everything.asked(g);
             g.restore(1);
             same("all of it", Everything.asked(g), saved);
         });

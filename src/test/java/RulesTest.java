@@ -1,14 +1,19 @@
+import java.io.IOException;
 import java.lang.management.ManagementFactory;
 import java.lang.reflect.Constructor;
 import java.lang.reflect.Field;
 import java.lang.reflect.Method;
 import java.lang.reflect.Modifier;
+import java.nio.file.Files;
+import java.nio.file.Path;
 import java.util.ArrayList;
 import java.util.Arrays;
 import java.util.HashSet;
 import java.util.List;
 import java.util.Set;
 import java.util.TreeSet;
+import java.util.regex.Matcher;
+import java.util.regex.Pattern;
 
 /** The face as the document prints it, and how little room the calls take. */
 public final class RulesTest {
@@ -81,6 +86,50 @@ public final class RulesTest {
         Probe.due("the constructor is public", constructors[0].getModifiers(), Modifier.PUBLIC);
         Probe.due("the class", GalleryGuards.class.getModifiers(), Modifier.PUBLIC | Modifier.FINAL);
         Probe.due("its package", GalleryGuards.class.getPackageName(), "");
+    }
+
+    private static final Pattern METHOD = Pattern.compile("public (\\w+) (\\w+)\\(([^)]*)\\)(?: throws ([\\w, ]+))?;");
+
+    /** A line of the document's face in the words of signature; empty if it is no method's line. */
+    private static String signature(String line) {
+        Matcher m = METHOD.matcher(line.trim());
+        if (!m.matches()) {
+            return "";
+        }
+        String parameters = m.group(3).replaceAll("(\\w+) \\w+,? ?", " $1");
+        String thrown = m.group(4) == null ? "" : " throws " + m.group(4).replace(",", "");
+        return m.group(1) + " " + m.group(2) + parameters + thrown;
+    }
+
+    /** The face once more, as the document itself prints it: no line of its section is left out. */
+    private static void printedFace() throws IOException, ReflectiveOperationException {
+        Path document = Path.of(System.getProperty("document", "../shared/DOC.md"));
+        if (!Files.isReadable(document)) {
+            System.out.println("no document at " + document + ": the face is not compared with it");
+            return;
+        }
+        List<String> lines = Files.readAllLines(document);
+        int first = lines.indexOf("public final class GalleryGuards {");
+        Set<String> printed = new TreeSet<>();
+        List<String> others = new ArrayList<>();
+        for (String line : lines.subList(first, lines.size())) {
+            if (line.equals("}")) {
+                break;
+            }
+            if (signature(line).isEmpty()) {
+                others.add(line.trim());
+            } else {
+                printed.add(signature(line));
+            }
+        }
+        Probe.due("the face that the document prints", printed, new TreeSet<>(Arrays.asList(FACE)));
+        Probe.due("its other lines", others, List.of("public final class GalleryGuards {",
+                "public static final int NONE = -1;", "public GalleryGuards();"));
+        // by reflection, since javac copies a constant's value into the class that uses it
+        Field none = GalleryGuards.class.getField("NONE");
+        Probe.due("NONE", none.getInt(null), -1);
+        Probe.due("its type", none.getType(), int.class);
+        Probe.due("its modifiers", none.getModifiers(), Modifier.PUBLIC | Modifier.STATIC | Modifier.FINAL);
     }
 
     /** Every kind of call that answers, many times over. */
@@ -174,8 +223,9 @@ public final class RulesTest {
         }
     }
 
-    public static void main(String[] args) throws ReflectiveOperationException {
+    public static void main(String[] args) throws IOException, ReflectiveOperationException {
         face();
+        printedFace();
         room();
         freshAnswers();
         wildArguments();
